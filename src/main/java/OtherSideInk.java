@@ -707,7 +707,7 @@ public final class OtherSideInk {
             int place = from;
             for (int i = 0; i < MOST_NUMBERS; i++) {
                 int figures = figuresAt(place);
-                if (figures < 1 || figures > MOST_FIGURES) {
+                if (figures < 1) {
                     return NONE;
                 }
                 put(numbers, i, numberAt(place, figures));
@@ -735,9 +735,10 @@ public final class OtherSideInk {
             }
         }
 
+        /** A figure too many is left standing, where it is no mark that may follow. */
         private int figuresAt(int place) {
             int figures = 0;
-            for (int i = 0; i <= MOST_FIGURES && isFigure(letterAt(place + i)); i++) {
+            for (int i = 0; i < MOST_FIGURES && isFigure(letterAt(place + i)); i++) {
                 figures++;
             }
             return figures;
