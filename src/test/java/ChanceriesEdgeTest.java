@@ -125,7 +125,7 @@ public final class ChanceriesEdgeTest {
             faults(edge, before + ahead + (n < 10 ? "0" : "") + n + behind, place);
             faults(edge, before + ahead + (n < 10 ? "00" : "0") + n + behind, before.length());
         }
-        for (String none : new String[] {"", "-1", "+1", " 1", "1 ", "100", "999"}) {
+        for (String none : new String[] {"", "-1", "+1", " 1", "1 ", "100", "999", ":", "0:", "1/", "a", "1.0"}) {
             faults(edge, before + ahead + none + behind, before.length());
         }
     }
@@ -346,7 +346,7 @@ public final class ChanceriesEdgeTest {
     static void promise6Bounds(Edge edge) {
         edge.taken("person of 3", Edge::busy, 0, 2, (ink, p) -> ink.person(p, 1));
         edge.taken("person of 6", Edge.laying(Edge.MOST), 0, 5, (ink, p) -> ink.person(p, 0));
-        edge.taken("person of 1", Edge.laying(Edge.LEAST), 0, 0, (ink, p) -> ink.person(p, 0));
+        edge.taken("person of 1", Edge::least, 0, 0, (ink, p) -> ink.person(p, 0));
         edge.taken("what", Edge::busy, 0, 1, (ink, what) -> ink.person(2, what));
     }
 
@@ -365,7 +365,7 @@ public final class ChanceriesEdgeTest {
     static void promise7Bounds(Edge edge) {
         edge.taken("person of 3", Edge::busy, 0, 2, (ink, p) -> ink.view(p, 0));
         edge.taken("person of 6", Edge.laying(Edge.MOST), 0, 5, (ink, p) -> ink.view(p, 4));
-        edge.taken("person of 1", Edge.laying(Edge.LEAST), 0, 0, (ink, p) -> ink.view(p, 0));
+        edge.taken("person of 1", Edge::least, 0, 0, (ink, p) -> ink.view(p, 0));
         edge.taken("theme", Edge::busy, 0, 4, (ink, t) -> ink.view(2, t));
         edge.asked("a view", Edge::busy, ink -> ink.view(1, 0), 16);
     }
@@ -373,7 +373,7 @@ public final class ChanceriesEdgeTest {
     static void promise8Bounds(Edge edge) {
         edge.taken("paper of 3", Edge::busy, 0, 2, (ink, a) -> ink.line(a, 0));
         edge.taken("paper of 5", Edge.laying(Edge.MOST), 0, 4, (ink, a) -> ink.line(a, 4));
-        edge.taken("paper of 1", Edge.laying(Edge.LEAST), 0, 0, (ink, a) -> ink.line(a, 0));
+        edge.taken("paper of 1", Edge::least, 0, 0, (ink, a) -> ink.line(a, 0));
         edge.taken("theme", Edge::busy, 0, 4, (ink, t) -> ink.line(1, t));
     }
 
@@ -395,7 +395,7 @@ public final class ChanceriesEdgeTest {
     static void promise9Bounds(Edge edge) {
         edge.taken("person of 3", Edge::busy, 0, 2, (ink, p) -> ink.would(p, 0, 0));
         edge.taken("person of 6", Edge.laying(Edge.MOST), 0, 5, (ink, p) -> ink.would(p, 0, 0));
-        edge.taken("person of 1", Edge.laying(Edge.LEAST), 0, 0, (ink, p) -> ink.would(p, 0, 0));
+        edge.taken("person of 1", Edge::least, 0, 0, (ink, p) -> ink.would(p, 0, 0));
         edge.taken("theme", Edge::busy, 0, 4, (ink, t) -> ink.would(2, t, 3));
         edge.taken("tears", Edge::busy, 0, 10, (ink, n) -> ink.would(0, 0, n));
         edge.asked("would", Edge::busy, ink -> ink.would(0, 0, 0), 11);

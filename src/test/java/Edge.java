@@ -71,6 +71,13 @@ final class Edge {
         }
     }
 
+    /** THE TEXT is this one, and it has been asked for its FAULT: what stands is another one. */
+    static void read(OtherSideInk ink, String text) {
+        ink.wipe();
+        write(ink, text);
+        ink.fault();
+    }
+
     static OtherSideInk written(String text) {
         OtherSideInk ink = new OtherSideInk();
         write(ink, text);
@@ -94,7 +101,16 @@ final class Edge {
         return ink;
     }
 
-    /** Laid with THREE; ten changes, so that two dropped out; two KEPT; SIGNED is one; THE TEXT can be laid. */
+    /** As few as there can be, while the latest text read has as many: FAULT only asks, too. */
+    static void least(OtherSideInk ink) {
+        laying(LEAST).on(ink);
+        read(ink, MOST);
+    }
+
+    /**
+     * Laid with THREE; ten changes, so that two dropped out; two KEPT; SIGNED is one; THE TEXT can be laid, and it
+     * has been read, with fewer PERSONS and PAPERS than there are.
+     */
     static void busy(OtherSideInk ink) {
         laying(THREE).on(ink);
         ink.set(0, 0, 0, 3);
@@ -110,8 +126,7 @@ final class Edge {
         ink.set(2, 1, 0, 0);
         ink.erase(1, 0, 4);
         ink.sign(0, 14);
-        ink.wipe();
-        write(ink, "p3,1;p0,1;v0,2,5;a1;");
+        read(ink, "p3,1;p0,1;v0,2,5;a1;");
     }
 
     void due(String what, long got, long want) {

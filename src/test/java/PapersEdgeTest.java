@@ -14,10 +14,10 @@ public final class PapersEdgeTest {
     static void promise10Bounds(Edge edge) {
         edge.taken("paper of 3", Edge::busy, 0, 2, (ink, a) -> ink.set(a, 0, 0, 0));
         edge.taken("paper of 5", Edge.laying(Edge.MOST), 0, 4, (ink, a) -> ink.set(a, 0, 0, 0));
-        edge.taken("paper of 1", Edge.laying(Edge.LEAST), 0, 0, (ink, a) -> ink.set(a, 0, 0, 0));
+        edge.taken("paper of 1", Edge::least, 0, 0, (ink, a) -> ink.set(a, 0, 0, 0));
         edge.taken("person of 3", Edge::busy, 0, 2, (ink, p) -> ink.set(0, p, 0, 0));
         edge.taken("person of 6", Edge.laying(Edge.MOST), 0, 5, (ink, p) -> ink.set(0, p, 0, 0));
-        edge.taken("person of 1", Edge.laying(Edge.LEAST), 0, 0, (ink, p) -> ink.set(0, p, 0, 0));
+        edge.taken("person of 1", Edge::least, 0, 0, (ink, p) -> ink.set(0, p, 0, 0));
         edge.taken("theme", Edge::busy, 0, 4, (ink, t) -> ink.set(0, 0, t, 0));
         edge.taken("tears", Edge::busy, 0, 10, (ink, n) -> ink.set(0, 0, 0, n));
         edge.refused("all BAD", Edge::busy, ink -> ink.set(3, 3, 5, 11), BAD);
@@ -66,10 +66,11 @@ public final class PapersEdgeTest {
                 ink.set(a, 0, t, 10);
             }
         }
+        Edge.read(ink, Edge.LEAST);
     }
 
     private static void oneWritten(OtherSideInk ink) {
-        Edge.laying(Edge.LEAST).on(ink);
+        Edge.least(ink);
         ink.set(0, 0, 0, 0);
     }
 
@@ -85,7 +86,7 @@ public final class PapersEdgeTest {
 
     static void promise11NoWhereItIsEmpty(Edge edge) {
         edge.refused("empty beside others", Edge::busy, ink -> ink.erase(0, 0, 1), NO);
-        edge.refused("all are empty", Edge.laying(Edge.LEAST), ink -> ink.erase(0, 0, 4), NO);
+        edge.refused("all are empty", Edge::least, ink -> ink.erase(0, 0, 4), NO);
         edge.refused("empty once more", ink -> {
             oneWritten(ink);
             ink.undo();
@@ -199,7 +200,7 @@ public final class PapersEdgeTest {
     static void promise13Bounds(Edge edge) {
         edge.taken("person of 3", Edge::busy, 0, 2, (ink, p) -> ink.think(p, 0, 0));
         edge.taken("person of 6", Edge.laying(Edge.MOST), 0, 5, (ink, p) -> ink.think(p, 0, 0));
-        edge.taken("person of 1", Edge.laying(Edge.LEAST), 0, 0, (ink, p) -> ink.think(p, 0, 0));
+        edge.taken("person of 1", Edge::least, 0, 0, (ink, p) -> ink.think(p, 0, 0));
         edge.taken("theme", Edge::busy, 0, 4, (ink, t) -> ink.think(0, t, 0));
         edge.taken("view", Edge::busy, 0, 18, (ink, v) -> ink.think(0, 0, v));
     }
@@ -224,10 +225,10 @@ public final class PapersEdgeTest {
     static void promise14Bounds(Edge edge) {
         edge.taken("person of 3", Edge::busy, 0, 2, (ink, p) -> ink.mind(p, 0));
         edge.taken("person of 6", Edge.laying(Edge.MOST), 0, 5, (ink, p) -> ink.mind(p, 0));
-        edge.taken("person of 1", Edge.laying(Edge.LEAST), 0, 0, (ink, p) -> ink.mind(p, 0));
+        edge.taken("person of 1", Edge::least, 0, 0, (ink, p) -> ink.mind(p, 0));
         edge.taken("of 3 in mind", Edge::busy, 0, 2, (ink, m) -> ink.mind(0, m));
         edge.taken("of 6 in mind", Edge.laying(Edge.MOST), 0, 5, (ink, m) -> ink.mind(0, m));
-        edge.taken("of 1 in mind", Edge.laying(Edge.LEAST), 0, 0, (ink, m) -> ink.mind(0, m));
+        edge.taken("of 1 in mind", Edge::least, 0, 0, (ink, m) -> ink.mind(0, m));
     }
 
     static void promise14AnswersWhomHeHadHimselfToo(Edge edge) {

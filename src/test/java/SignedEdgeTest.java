@@ -188,7 +188,7 @@ public final class SignedEdgeTest {
     static void promise26Bounds(Edge edge) {
         edge.taken("person of 3", Edge::busy, 0, 2, (ink, p) -> ink.views(p, 0, 10));
         edge.taken("person of 6", Edge.laying(Edge.MOST), 0, 5, (ink, p) -> ink.views(p, 0, 10));
-        edge.taken("person of 1", Edge.laying(Edge.LEAST), 0, 0, (ink, p) -> ink.views(p, 0, 10));
+        edge.taken("person of 1", Edge::least, 0, 0, (ink, p) -> ink.views(p, 0, 10));
         edge.taken("theme", Edge::busy, 0, 4, (ink, t) -> ink.views(1, t, 3));
         edge.taken("tears", Edge::busy, 0, 10, (ink, n) -> ink.views(0, 0, n));
     }

@@ -14,7 +14,7 @@ public final class WeeksEdgeTest {
     static void promise27Bounds(Edge edge) {
         edge.taken("person of 3", Edge::busy, 0, 2, (ink, p) -> ink.drops(p, 0, 9, 5, 0));
         edge.taken("person of 6", Edge.laying(Edge.MOST), 0, 5, (ink, p) -> ink.drops(p, 0, 9, 5, 0));
-        edge.taken("person of 1", Edge.laying(Edge.LEAST), 0, 0, (ink, p) -> ink.drops(p, 0, 9, 5, 0));
+        edge.taken("person of 1", Edge::least, 0, 0, (ink, p) -> ink.drops(p, 0, 9, 5, 0));
         edge.taken("theme", Edge::busy, 0, 4, (ink, t) -> ink.drops(2, t, 9, 5, 1));
         edge.taken("view", Edge::busy, 0, 18, (ink, v) -> ink.drops(0, 0, v, 5, 0));
         edge.taken("of ten", Edge::busy, 0, 10, (ink, x) -> ink.drops(0, 0, 14, x, 0));
@@ -139,7 +139,7 @@ public final class WeeksEdgeTest {
             weeksAsWritten(edge, Edge::busy, z);
             weeksAsWritten(edge, Edge.laying("p0,0;p2,3;p0,1;p1,0;v0,0,18;v1,1,0;v2,2,18;v3,4,0;a1;"), z);
             weeksAsWritten(edge, Edge.laying("p0,1;p0,0;v0,0,18;v1,1,0;a2;"), z);
-            weeksAsWritten(edge, Edge.laying(Edge.LEAST), z);
+            weeksAsWritten(edge, Edge::least, z);
             weeksAsWritten(edge, Edge.laying(Edge.MOST), z);
         }
     }

@@ -29,10 +29,11 @@ public final class WouldEdgeTest {
                 ink.set(0, 0, t, 10);
             }
         }
+        Edge.read(ink, Edge.LEAST);
     }
 
     private static void onePaper(OtherSideInk ink) {
-        Edge.laying("p0,0;v0,0,12;a1;").on(ink);
+        Edge.least(ink);
         for (int t = 0; t < 5; t++) {
             ink.set(0, 0, t, 0);
         }
@@ -73,7 +74,7 @@ public final class WouldEdgeTest {
     static void promise17Bounds(Edge edge) {
         edge.taken("person of 3", Edge::busy, 0, 2, (ink, p) -> ink.tears(p, 0, 9));
         edge.taken("person of 6", Edge.laying(Edge.MOST), 0, 5, (ink, p) -> ink.tears(p, 0, 9));
-        edge.taken("person of 1", Edge.laying(Edge.LEAST), 0, 0, (ink, p) -> ink.tears(p, 0, 9));
+        edge.taken("person of 1", Edge::least, 0, 0, (ink, p) -> ink.tears(p, 0, 9));
         edge.taken("theme", Edge::busy, 0, 4, (ink, t) -> ink.tears(2, t, 9));
         edge.taken("view", Edge::busy, 0, 18, (ink, v) -> ink.tears(0, 0, v));
     }
@@ -117,7 +118,7 @@ public final class WouldEdgeTest {
     static void promise18Bounds(Edge edge) {
         edge.taken("person of 3", Edge::busy, 0, 2, (ink, p) -> ink.whom(p, 0, 9));
         edge.taken("person of 6", Edge.laying(Edge.MOST), 0, 5, (ink, p) -> ink.whom(p, 0, 9));
-        edge.taken("person of 1", Edge.laying(Edge.LEAST), 0, 0, (ink, p) -> ink.whom(p, 0, 9));
+        edge.taken("person of 1", Edge::least, 0, 0, (ink, p) -> ink.whom(p, 0, 9));
         edge.taken("theme", Edge::busy, 0, 4, (ink, t) -> ink.whom(2, t, 9));
         edge.taken("view", Edge::busy, 0, 18, (ink, v) -> ink.whom(0, 0, v));
     }
@@ -178,6 +179,7 @@ public final class WouldEdgeTest {
         edge.taken("of 3, but the one", Edge::busy, 0, 1, (ink, q) -> ink.treaty(2, q, 0));
         edge.taken("of 6, but the other", Edge.laying(Edge.MOST), 1, 5, (ink, p) -> ink.treaty(p, 0, 0));
         edge.taken("of 6, but the one", Edge.laying(Edge.MOST), 0, 4, (ink, q) -> ink.treaty(5, q, 0));
+        edge.taken("of 3, the first ahead", Edge::busy, 1, 2, (ink, q) -> ink.treaty(0, q, 0));
         edge.taken("tears", Edge::busy, 0, 10, (ink, n) -> ink.treaty(0, 1, n));
     }
 
@@ -186,8 +188,8 @@ public final class WouldEdgeTest {
             int person = p;
             edge.asked("alike", Edge::busy, ink -> ink.treaty(person, person, 5), BAD);
         }
-        edge.asked("one alone", Edge.laying(Edge.LEAST), ink -> ink.treaty(0, 0, 0), BAD);
-        edge.asked("one alone and a second", Edge.laying(Edge.LEAST), ink -> ink.treaty(0, 1, 0), BAD);
+        edge.asked("one alone", Edge::least, ink -> ink.treaty(0, 0, 0), BAD);
+        edge.asked("one alone and a second", Edge::least, ink -> ink.treaty(0, 1, 0), BAD);
     }
 
     static void promise19NoneAndAll(Edge edge) {
