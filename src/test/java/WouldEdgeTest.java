@@ -168,6 +168,8 @@ public final class WouldEdgeTest {
 
     static void promise18OnlyAsksAndBadBeforeNone(Edge edge) {
         edge.asked("one", Edge::busy, ink -> ink.whom(1, 0, 14), 0);
+        edge.asked("the last one", Edge::busy, ink -> ink.whom(0, 0, 11), 2);
+        edge.asked("nobody there", Edge::least, ink -> ink.whom(0, 0, 9), NONE);
         edge.asked("NONE", Edge::busy, ink -> ink.whom(0, 0, 0), NONE);
         edge.asked("BAD", Edge::busy, ink -> ink.whom(0, 5, 0), BAD);
     }
@@ -208,6 +210,7 @@ public final class WouldEdgeTest {
         edge.due("whom they have stays", ink.person(0, 1), 2);
         // on THEMES 0, 1, 3 2 and -2, 0 and -2, -6 and -2
         edge.asked("asks", Edge::busy, i -> i.treaty(0, 2, 3), 20);
+        edge.asked("asks, half and half", Edge::busy, i -> i.treaty(0, 1, 5), 31);
     }
 
     static void promise19EachThemeByKind(Edge edge) {
@@ -269,6 +272,9 @@ public final class WouldEdgeTest {
     static void promise20OnlyAsks(Edge edge) {
         edge.asked("one COPYING", Edge::busy, ink -> ink.round(0, 0, 1), 15);
         edge.asked("none", Edge::busy, ink -> ink.round(0, 0, 0), 16);
+        // by turns 11, 12, 11 at last
+        edge.asked("59", Edge::busy, ink -> ink.round(0, 0, 59), 12);
+        edge.asked("60", Edge::busy, ink -> ink.round(0, 0, 60), 11);
     }
 
     // ---- promise 21
