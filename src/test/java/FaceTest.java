@@ -55,6 +55,16 @@ public final class FaceTest {
             }
         }
         CHECK.holds("the calls are the document's: " + open, open.equals(new TreeSet<>(List.of(CALLS))));
+        for (Class<?> inside : OtherSideInk.class.getDeclaredClasses()) {
+            CHECK.holds(inside + " is static", Modifier.isStatic(inside.getModifiers()));
+            CHECK.holds(inside + " is not open", !Modifier.isPublic(inside.getModifiers())
+                    && !Modifier.isProtected(inside.getModifiers()));
+            for (Method method : inside.getDeclaredMethods()) {
+                if (Modifier.isPrivate(method.getModifiers())) {
+                    closedNames.add(method.getName());
+                }
+            }
+        }
         closedNames.retainAll(openNames);
         CHECK.holds("private methods with names of public ones: " + closedNames, closedNames.isEmpty());
         CHECK.holds("public final", Modifier.isPublic(OtherSideInk.class.getModifiers())
